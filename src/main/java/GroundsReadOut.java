@@ -18,7 +18,7 @@ public final class GroundsReadOut {
     /** The KIND that each KIND is under. */
     private static final int[] ABOVE = {NONE, READER, READER, CLERK, DREAMER, READER};
 
-    private static final int TURNS = 0, MISSES = 1, BOUNDS = 2;
+    private static final int TURNS = 0, MISSES = 1, BOUNDS = 2, MOST_TOLD = 99;
     private static final String FIRST_RULE = "turns 0 ; misses saying ; bounds 9 ;";
 
     private final Shelf shelf;
@@ -99,9 +99,9 @@ public final class GroundsReadOut {
             return BAD;
         }
         if (what == 0) {
-            return now.seenBy(one, cup);
+            return now.seen(one, now.grounds[cup], now.ruled(TURNS, one, cup));
         }
-        return what == 1 ? now.overlookedBy(one, cup) : now.readBy(one, cup);
+        return what == 1 ? now.overlooked(one, now.ruled(MISSES, one, cup)) : now.readBy(one, cup);
     }
 
     // ---- texts
@@ -235,15 +235,15 @@ public final class GroundsReadOut {
             case 0:
                 return now.firstOtherwise(row, one);
             case 1:
-                return kindsOf(row, one);
+                return bitsOf(row, one, House.KIND, ARAB + 1);
             case 2:
-                return numbersOf(row, one);
+                return bitsOf(row, one, House.NUMBER, MOST_NUMBER + 1);
             case 3:
                 return hoursOf(row, one, false);
             case 4:
                 return hoursOf(row, one, true);
             case 5:
-                return textsOf(row, one);
+                return bitsOf(row, one, House.RULE, shelf.texts);
             default:
                 return readersOf(row);
         }
@@ -404,25 +404,14 @@ public final class GroundsReadOut {
 
     // ---- what a told reading could be of
 
-    private int kindsOf(Sheet row, int one) {
+    /** Of 0 .. many - 1 those (bits) by which all would be so, were what is noted of one that. */
+    private int bitsOf(Sheet row, int one, int what, int many) {
         thought.becomeLike(now);
         int bits = 0;
-        for (int kind = READER; kind <= ARAB; kind++) {
-            thought.kinds[one] = kind;
+        for (int v = 0; v < many; v++) {
+            thought.note(what, one, v);
             if (thought.firstOtherwise(row, one) == NONE) {
-                bits |= 1 << kind;
-            }
-        }
-        return bits;
-    }
-
-    private int numbersOf(Sheet row, int one) {
-        thought.becomeLike(now);
-        int bits = 0;
-        for (int number = 0; number <= MOST_NUMBER; number++) {
-            thought.numbers[one] = number;
-            if (thought.firstOtherwise(row, one) == NONE) {
-                bits |= 1 << number;
+                bits |= 1 << v;
             }
         }
         return bits;
@@ -441,18 +430,6 @@ public final class GroundsReadOut {
             }
         }
         return least ? NONE : many;
-    }
-
-    private int textsOf(Sheet row, int one) {
-        thought.becomeLike(now);
-        int bits = 0;
-        for (int text = 0; text < shelf.texts; text++) {
-            thought.rule = text;
-            if (thought.firstOtherwise(row, one) == NONE) {
-                bits |= 1 << text;
-            }
-        }
-        return bits;
     }
 
     private int readersOf(Sheet row) {
@@ -633,7 +610,7 @@ public final class GroundsReadOut {
                     if (top < 1) {
                         return 0;
                     }
-                    stack[top - 1] = sort == Scribe.NOT ? oneIf(stack[top - 1] == 0) : -stack[top - 1];
+                    stack[top - 1] = sort == Scribe.NEGATE ? -stack[top - 1] : stack[top - 1] == 0 ? 1 : 0;
                 } else {
                     if (top < 2) {
                         return 0;
@@ -648,13 +625,13 @@ public final class GroundsReadOut {
         private static int joined(int sort, int a, int b) {
             switch (sort) {
                 case Scribe.OR:
-                    return oneIf(a != 0 || b != 0);
+                    return a != 0 || b != 0 ? 1 : 0;
                 case Scribe.AND:
-                    return oneIf(a != 0 && b != 0);
+                    return a != 0 && b != 0 ? 1 : 0;
                 case Scribe.LESS:
-                    return oneIf(a < b);
+                    return a < b ? 1 : 0;
                 case Scribe.SAME:
-                    return oneIf(a == b);
+                    return a == b ? 1 : 0;
                 case Scribe.PLUS:
                     return a + b;
                 case Scribe.MINUS:
@@ -668,6 +645,7 @@ public final class GroundsReadOut {
     /** All TEXTS, shared by the house, its image and what is thought: an image does not keep them. */
     private static final class Shelf {
         private final Text[] row = new Text[MOST_TEXTS];
+        /** Used again by each text that tells something, so that none makes its own. */
         private final int[] stack = new int[MOST_BYTES];
         private int texts;
 
@@ -682,14 +660,6 @@ public final class GroundsReadOut {
             row[texts] = written;
             texts++;
             return texts - 1;
-        }
-
-        int worth(int text, int part, int[] names) {
-            if (text < 0 || text >= texts || row[text] == null) {
-                return 0;
-            }
-            int least = part == BOUNDS ? 0 : -99;
-            return Math.max(least, Math.min(99, row[text].worth(part, names, stack)));
         }
     }
 
@@ -991,7 +961,7 @@ public final class GroundsReadOut {
     /** All that an image keeps; indices and values given to it have been looked at by who calls. */
     private static final class House {
         private static final int SAID = 0, HOUR = 1, GROUNDS = 2, TO = 3, NUMBER = 4, SLIPS = 5;
-        private static final int KIND = 6, STEADY = 7, REASON_SET = 8, REASON_SAYING = 9;
+        private static final int KIND = 6, STEADY = 7, REASON_SET = 8, REASON_SAYING = 9, RULE = 10;
         private static final int NAME_GROUNDS = 0, NAME_SAYING = 1, NAME_NUMBER = 2, NAME_HOUR = 3;
         private static final int NAME_SLIPS = 4, NAME_CUP = 5, NAMES = 6;
 
@@ -1103,8 +1073,16 @@ public final class GroundsReadOut {
                 case NUMBER:
                     numbers[of] = v;
                     break;
-                default:
+                case SLIPS:
                     slips[of] = v;
+                    break;
+                case KIND:
+                    kinds[of] = v;
+                    break;
+                case RULE:
+                    rule = v;
+                    break;
+                default:
                     break;
             }
         }
@@ -1147,7 +1125,10 @@ public final class GroundsReadOut {
         }
 
         /** What THE RULE tells of one and a cup (NONE where a part knows of no cup). */
-        private int ruled(int part, int one, int cup) {
+        int ruled(int part, int one, int cup) {
+            if (rule < 0 || rule >= MOST_TEXTS || shelf.row[rule] == null) {
+                return 0;
+            }
             boolean ofCup = hasCup(cup);
             names[NAME_GROUNDS] = ofCup ? Integer.bitCount(grounds[cup]) : 0;
             names[NAME_SAYING] = ofCup ? to[cup] : 0;
@@ -1155,7 +1136,8 @@ public final class GroundsReadOut {
             names[NAME_HOUR] = hour;
             names[NAME_SLIPS] = slips[one];
             names[NAME_CUP] = ofCup ? cup : 0;
-            return shelf.worth(rule, part, names);
+            int told = shelf.row[rule].worth(part, names, shelf.stack);
+            return Math.max(part == BOUNDS ? 0 : -MOST_TOLD, Math.min(MOST_TOLD, told));
         }
 
         boolean isSteady(int one) {
@@ -1170,28 +1152,28 @@ public final class GroundsReadOut {
             }
         }
 
-        int seenBy(int one, int cup) {
-            int set = grounds[cup];
-            int turns = ruled(TURNS, one, cup);
+        /** What one sees of a set, turns telling v. */
+        int seen(int one, int set, int v) {
             switch (kinds[one]) {
                 case READER:
-                    return turned(set, turns);
+                    return turned(set, v);
                 case CLERK:
-                    return mirrored(turned(set, turns));
+                    return mirrored(turned(set, v));
                 case DREAMER:
-                    return turned(set, turns) ^ 1 << numbers[one];
+                    return turned(set, v) ^ 1 << numbers[one];
                 case WIDOW:
-                    return mirrored(turned(withoutLeast(set), turns));
+                    return mirrored(turned(withoutLeast(set), v));
                 case PROPHET:
-                    return turned(ALL & ~set, turns) ^ 1 << numbers[one];
+                    return turned(ALL & ~set, v) ^ 1 << numbers[one];
                 default:
                     return set;
             }
         }
 
-        int overlookedBy(int one, int cup) {
-            int missed = 1 << Math.floorMod(ruled(MISSES, one, cup), SAYINGS);
-            // All from the missed one on are what is left of ALL above the bits below it.
+        /** What one overlooks, misses telling v. */
+        int overlooked(int one, int v) {
+            int missed = 1 << Math.floorMod(v, SAYINGS);
+            // A bit's negative has that bit and all above it.
             int fromMissed = ALL & -missed;
             switch (kinds[one]) {
                 case READER:
@@ -1208,7 +1190,8 @@ public final class GroundsReadOut {
         }
 
         int readBy(int one, int cup) {
-            return seenBy(one, cup) & ~overlookedBy(one, cup) & ~(1 << to[cup]);
+            int found = seen(one, grounds[cup], ruled(TURNS, one, cup));
+            return found & ~overlooked(one, ruled(MISSES, one, cup)) & ~(1 << to[cup]);
         }
 
         private static int turned(int set, int turns) {
