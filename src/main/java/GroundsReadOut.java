@@ -601,7 +601,7 @@ public final class GroundsReadOut {
                 int sort = steps[at] >>> 16;
                 int value = steps[at] & 0xFFFF;
                 if (sort == Scribe.NUMBER || sort == Scribe.NAME) {
-                    if (top < 0 || top >= stack.length || sort == Scribe.NAME && value >= names.length) {
+                    if (top >= stack.length || sort == Scribe.NAME && value >= names.length) {
                         return 0;
                     }
                     stack[top] = sort == Scribe.NUMBER ? value : names[value];
@@ -1272,29 +1272,33 @@ public final class GroundsReadOut {
             return many;
         }
 
-        /** Sets are gone through from the least on, so that of like ones the least stays. */
+        /** Going through sets from the least on, taking only better ones, leaves of like ones the least. */
         int base() {
+            // What no reason bears must be of it.
+            int open = said & borneByReasons();
             int fewest = said;
-            for (int set = 0; set < said; set++) {
-                if ((set & ~said) == 0 && Integer.bitCount(set) < Integer.bitCount(fewest)
-                        && (said & ~following(set, NONE)) == 0) {
-                    fewest = set;
+            int set = 0;
+            for (int i = 0; i < 1 << Integer.bitCount(open); i++) {
+                int whole = set | said & ~open;
+                if (Integer.bitCount(whole) < Integer.bitCount(fewest) && (said & ~following(whole, NONE)) == 0) {
+                    fewest = whole;
                 }
+                set = setAfter(set, open);
             }
             return fewest;
         }
 
         int peace(int leftOut) {
-            int most = NONE;
-            for (int set = 0; set <= said; set++) {
-                if ((set & ~said) == 0 && Integer.bitCount(set) > sizeOf(most)
-                        && !isClash(set) && !isClash(following(set, leftOut))) {
+            if (isClash(following(0, leftOut))) {
+                return NONE;
+            }
+            int most = 0;
+            int set = 0;
+            for (int i = 0; i < 1 << Integer.bitCount(said); i++) {
+                if (Integer.bitCount(set) > Integer.bitCount(most) && !isClash(set) && !isClash(following(set, leftOut))) {
                     most = set;
                 }
-                // What clashes by nothing clashes by all.
-                if (most == NONE) {
-                    return NONE;
-                }
+                set = setAfter(set, said);
             }
             return most;
         }
@@ -1323,25 +1327,41 @@ public final class GroundsReadOut {
         }
 
         int causeOf(int saying) {
-            int fewest = NONE;
+            if ((borneByReasons() & 1 << saying) == 0) {
+                return NONE;
+            }
+            // What no reason uses is never of a smallest cause: without it the same follows.
             int useful = usedByReasons() & ~(1 << saying);
-            for (int set = 0; set <= useful; set++) {
-                if ((set & ~useful) == 0
-                        && (fewest == NONE || Integer.bitCount(set) < Integer.bitCount(fewest))
-                        && (following(set, NONE) & 1 << saying) != 0) {
+            int fewest = useful;
+            int set = 0;
+            for (int i = 0; i < 1 << Integer.bitCount(useful); i++) {
+                if (Integer.bitCount(set) < Integer.bitCount(fewest) && (following(set, NONE) & 1 << saying) != 0) {
                     fewest = set;
                 }
+                set = setAfter(set, useful);
             }
             return fewest;
         }
 
-        /** A saying that no reason uses is never of a smallest cause: without it the same follows. */
         private int usedByReasons() {
             int used = 0;
             for (int i = 0; i < reasons; i++) {
                 used |= sets[i];
             }
             return used;
+        }
+
+        private int borneByReasons() {
+            int bits = 0;
+            for (int i = 0; i < reasons; i++) {
+                bits |= 1 << borne[i];
+            }
+            return bits;
+        }
+
+        /** The next set of some sayings: taking them all away lends through every bit that isn't of them. */
+        private static int setAfter(int set, int some) {
+            return set - some & some;
         }
 
         int cupToRead(int one) {

@@ -35,6 +35,8 @@ public final class OracleTest {
   private int pick(int n) { return below(25) == 0 ? EDGES[below(EDGES.length)] : below(n); }
   private int set() {
     int a = chance.nextInt(4096);
+    // Of each two opposite ones at most one, so that there is peace at times.
+    if (below(4) == 0) return a & ~(a >> 6 & 63);
     return below(25) == 0 ? EDGES[below(EDGES.length)] : below(2) == 0 ? a & chance.nextInt(4096) & chance.nextInt(4096) : a;
   }
   private int one() { return pick(Math.max(1, oracle.count(0))); }

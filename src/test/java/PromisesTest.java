@@ -242,6 +242,7 @@ public final class PromisesTest {
     expressions();
     faults();
     openOnes();
+    tapeAnew();
     GroundsReadOut x = new GroundsReadOut();
     for (int i = 1; i < 6; i++) {
       due("text", write(x, "turns " + i + ";misses 0;bounds 9;"), i);
@@ -326,6 +327,18 @@ public final class PromisesTest {
     fault("turns 1 x;", 8);
     fault("turns grounds saying;", 14);
     fault("turns cups;", 6);
+    fault("turns cupz;", 6);
+    fault("turns cupa;", 6);
+    fault("turns cu;", 6);
+    fault("turns xup;", 6);
+    fault("turns cux;", 6);
+    fault("turns 1 xr 1;", 8);
+    fault("turns 1 xnd 1;", 8);
+    fault("turns xot 1;", 6);
+    fault("turns 12" + (char) ('0' - 1) + ";", 8);
+    fault("turns 12" + (char) ('9' + 1) + ";", 8);
+    fault("turns cup" + (char) ('a' - 1) + ";", 9);
+    fault("turns cup" + (char) ('z' + 1) + ";", 9);
     fault("turns Cup;", 6);
     fault("turns cuP;", 6);
     fault("turns 1\t;", 7);
@@ -354,6 +367,19 @@ public final class PromisesTest {
     fault("turns ; ?", 6);
     fault("turns (", 7);
     fault("turns 1 <", 9);
+  }
+
+  /** What an earlier tape left behind must not be read again. */
+  private static void tapeAnew() {
+    GroundsReadOut x = new GroundsReadOut();
+    due("a word", write(x, "xxxxxxxxxxxxxxxxxxxx"), -100);
+    due("ends too early", write(x, "turns"), -105);
+    due("a number", write(x, "99999999999999999999"), -100);
+    due("ends too early", write(x, "turns 1234"), -110);
+    for (int i = 0; i < 160; i++) x.feed(';');
+    due("160 tokens", x.text(), -100);
+    due("the rest of them is gone", write(x, "turns 1;misses 1;bounds 1;"), 1);
+    due("an empty tape", x.text(), -100);
   }
 
   private static void openOnes() {
@@ -472,6 +498,22 @@ public final class PromisesTest {
     x.reason(bits(0, 1), 9);
     due("by two rounds", x.best(0), bits(0, 2));
     due("two", x.best(1), 2);
+    x = new GroundsReadOut();
+    x.set(0, 0, bits(1));
+    x.reason(0, 1);
+    due("by nothing", x.best(0), 0);
+    due("none", x.best(1), 0);
+    x = new GroundsReadOut();
+    x.set(0, 0, bits(8, 9));
+    x.reason(bits(1), 8);
+    x.reason(bits(1), 9);
+    x.reason(bits(2), 1);
+    due("not by 1, which was not said", x.best(0), bits(8, 9));
+    due("all is at peace", x.best(2), bits(8, 9));
+    due("two", x.best(3), 2);
+    x.reason(bits(9, 8), 1);
+    x.reason(bits(1), 7);
+    due("but for what follows", x.best(2), bits(8));
     x = new GroundsReadOut();
     x.set(0, 0, bits(0, 6, 1, 8));
     due("peace: the least of like ones", x.best(2), bits(0, 1, 8));
@@ -785,6 +827,8 @@ public final class PromisesTest {
     }
     due("a new image", x.image(), 2);
     x.set(4, 1, 0);
+    x.reader(4, 4);
+    x.set(5, 2, 44);
     due("back", x.back(), 2);
     due("as it was then", x.told(1, 4), 5);
     x.reader(4, 4);
