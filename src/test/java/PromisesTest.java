@@ -361,6 +361,10 @@ public final class PromisesTest {
     fault("turns 1);", 7);
     fault("turns ();", 7);
     fault("turns 1; bounds 1;", 9);
+    fault("turns 1 bounds 1;", 8);
+    fault("turns 1 misses 1;", 8);
+    fault("turns 1; misses 1; or 1;", 19);
+    fault("and 1; misses 1; bounds 1;", 0);
     fault("turns 1; misses 1; misses 1;", 19);
     // The first fault counts, though a later byte begins no token.
     fault("turns 1 2 ?", 8);
