@@ -727,7 +727,7 @@ public final class PromisesTest {
     due("nobody reads", x.drawn(5, 12), 2);
     for (int i = 0; i < 5; i++) x.reader(5, 0);
     for (int i = 0; i < 6; i++) x.cup(0, i + 5);
-    for (int seed = -40; seed < 40; seed++) {
+    for (int seed = -15; seed < 15; seed++) {
       for (int n = 0; n <= 12; n++) due("drawn(" + seed + ", " + n + ")", x.drawn(seed, n), drawnOf(seed, n));
     }
     due("truly nothing was read", x.count(2) + x.told(0, 1) + x.told(0, 5), 0);
@@ -762,10 +762,11 @@ public final class PromisesTest {
     due("never", x.chance(0, 10, 1, 0), 0);
     due("of one", x.chance(0, 10, 1, 1), 1);
     due("always", x.chance(0, 10, 0, 0), 1);
-    x.set(0, 0, 3);
-    for (int i = 0; i < 5; i++) x.reader(5, 0);
-    for (int i = 0; i < 6; i++) x.cup(0, i + 5);
     for (int seed : new int[] {0, -5, 77, MAX - 3, MIN}) {
+      x = new GroundsReadOut();
+      x.set(0, 0, 3);
+      for (int i = 0; i < 5; i++) x.reader(5, 0);
+      for (int i = 0; i < 6; i++) x.cup(0, i + 5);
       for (int m = 1; m <= 10; m++) {
         for (int k = 0; k <= 12; k++) {
           int many = 0, g = m;
