@@ -1,6 +1,7 @@
 import java.io.IOException;
 import java.nio.file.Files;
 import java.nio.file.Path;
+import java.util.Arrays;
 import java.util.LinkedHashSet;
 import java.util.Set;
 
@@ -17,15 +18,18 @@ class Look {
   /** The largest and the least int, as a text can tell them. */
   static final String MOST = "9999*9999*21+9999*4790+8416", LEAST = "-9999*9999*21-9999*4790-8417";
 
-  private static final Path DOC = Path.of("../shared/DOC.md");
+  static final Path DOC = Path.of("../shared/DOC.md");
+  static final char MARK = '~';
   private static final Set<String> quotes = new LinkedHashSet<>();
   private static String words = "";
   private static int wrong = 0, looked = 0;
 
   static void says(String quote) {
-    words = quote;
+    about(quote);
     quotes.add(quote);
   }
+  /** What the next answers are of, where that is no sentence of the document. */
+  static void about(String what) { words = what; }
 
   static void due(String call, long got, long want) {
     looked++;
@@ -77,19 +81,30 @@ class Look {
     due("turns " + e, x.sees(0, 0, 0), 1 << Math.floorMod(want, 12));
   }
 
-  private static String plain(String text) { return text.replaceAll("[\\s`]+", " "); }
+  static String plain(String text) { return text.replaceAll("[\\s`]+", " "); }
+
+  /** The document, with a mark in the place of all words that the tests which ran in this process said they are of. */
+  static String unsaid(String document) {
+    String doc = plain(document);
+    boolean[] said = new boolean[doc.length()];
+    for (String quote : quotes) {
+      String part = plain(quote);
+      int at = doc.indexOf(part);
+      if (at < 0) {
+        wrong++;
+        System.out.println("not of the document: " + quote);
+      }
+      for (; at >= 0; at = doc.indexOf(part, at + 1)) Arrays.fill(said, at, at + part.length(), true);
+    }
+    StringBuilder rest = new StringBuilder();
+    for (int i = 0; i < said.length; i++) rest.append(said[i] ? MARK : doc.charAt(i));
+    return rest.toString().replaceAll(MARK + "[" + MARK + " ]*", " " + MARK + " ");
+  }
 
   /** Ends the test; with an argument it shows what of the document none of its quotes is of. */
   static void end(String[] args) throws IOException {
     if (Files.exists(DOC)) {
-      String doc = plain(Files.readString(DOC)), rest = doc;
-      for (String quote : quotes) {
-        if (!doc.contains(plain(quote))) {
-          wrong++;
-          System.out.println("not of the document: " + quote);
-        }
-        rest = rest.replace(plain(quote), " ~ ");
-      }
+      String rest = unsaid(Files.readString(DOC));
       if (args.length > 0) System.out.println(rest);
     }
     System.out.println(quotes.size() + " sentences, " + looked + " answers looked at, " + wrong + " not as due");
